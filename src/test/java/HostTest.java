@@ -1,0 +1,304 @@
+/** Promises 32 to 38: acts, sheets of numbers, what the host refuses, status. */
+public final class HostTest {
+    private static final Due due = new Due();
+    private static final int MIN = Integer.MIN_VALUE;
+    private static final int MAX = Integer.MAX_VALUE;
+
+    public static void main(String[] args) {
+        acts();
+        actRefusals();
+        sheet();
+        cell();
+        row();
+        rowOrder();
+        forgeKinds();
+        forgeRows();
+        forgeOthers();
+        status();
+        due.end();
+    }
+
+    private static HeroSheet five() {
+        return BuildingTest.five();
+    }
+
+    /** Rules 0 .. 6 of kinds 0 .. 6, each with rank 3 and source 2. */
+    private static HeroSheet seven() {
+        HeroSheet x = five();
+        int more = 3 + 16 * 2;
+        x.rule(0, 0, more, 1, -1);
+        x.typed(1, 0, more, 1, -1);
+        x.rule(2, 0, more, 1, -1);
+        x.rule(3, 0, more, 1, -1);
+        x.rule(4, 0, more, 1, -1);
+        x.rule(5, 0, more, 1, -1);
+        x.rule(6, 0, more, 1, -1);
+        return x;
+    }
+
+    private static void actIs(HeroSheet x, int rule, int act, int n, int answer, int... bodies) {
+        String call = "32 act " + act + " of " + rule;
+        due.done(call, x, x.act(rule, act, n), answer);
+        due.is("33 trace of " + call + " size", x.count(7), bodies.length);
+        for (int i = 0; i < bodies.length; i++) {
+            due.is("33 trace of " + call + " " + i, x.trace(i), bodies[i]);
+        }
+        due.is("33 trace of " + call + " end", x.trace(bodies.length), -1);
+        due.is("33 trace of " + call + " before", x.trace(-1), -1);
+        due.is("33 trace of " + call + " far", x.trace(MAX), -1);
+    }
+
+    private static void acts() {
+        HeroSheet x = seven();
+        due.is("33 none yet", x.trace(0), -1);
+        actIs(x, 0, 0, 10, 13, 10);
+        actIs(x, 0, 1, 10, 26, 11, 10);
+        actIs(x, 0, 2, 10, 8, 12);
+        actIs(x, 0, 3, 10, 26 ^ 8, 13, 11, 10, 12);
+        actIs(x, 1, 0, 10, 14, 20, 10);
+        actIs(x, 1, 1, 10, 28, 11, 20, 10);
+        actIs(x, 1, 3, 10, 28 ^ 8, 13, 11, 20, 10, 12);
+        actIs(x, 2, 1, 10, 26 - 13, 30, 11, 10, 10);
+        actIs(x, 2, 3, 10, 13 ^ 8, 13, 30, 11, 10, 10, 12);
+        actIs(x, 3, 3, 10, 8 - (28 ^ 9), 40, 12, 13, 11, 10, 12);
+        actIs(x, 4, 2, 10, 24, 50, 12);
+        actIs(x, 4, 3, 10, 26 ^ 24, 13, 11, 10, 50, 12);
+        actIs(x, 5, 1, 10, 22, 61, 11, 10);
+        actIs(x, 5, 2, 10, 11, 60, 12);
+        actIs(x, 5, 3, 10, 22 ^ 11, 13, 61, 11, 10, 60, 12);
+        actIs(x, 6, 0, 10, 13 ^ 5, 70, 10);
+        actIs(x, 6, 1, 10, (11 ^ 5) * 2 + 1, 71, 61, 11, 70, 10, 60, 12);
+        actIs(x, 6, 2, 10, 11, 60, 12);
+        actIs(x, 6, 3, 10, ((11 ^ 5) * 2 + 1) ^ 11, 13, 71, 61, 11, 70, 10, 60, 12, 60, 12);
+        actIs(x, 0, 0, MAX, MIN + 2, 10);
+        actIs(x, 4, 2, MIN, (MAX - 1) * 3, 50, 12);
+        actIs(x, 0, 2, 1, -1, 12);
+    }
+
+    private static void actRefusals() {
+        HeroSheet x = seven();
+        x.act(0, 1, 0);
+        due.refused("32 rule 7", x, x.act(7, 0, 0), 1);
+        due.refused("32 rule -1", x, x.act(-1, 0, 0), 1);
+        due.refused("32 act 4", x, x.act(0, 4, 0), 1);
+        due.refused("32 act -1", x, x.act(0, -1, 0), 1);
+        due.is("33 the trace stays", x.count(7), 2);
+        due.is("33 its first body", x.trace(0), 11);
+    }
+
+    private static void sheet() {
+        HeroSheet x = new HeroSheet();
+        due.done("34 bytes", x, x.sheet(0, 0, 40), 1);
+        due.done("34 shorts", x, x.sheet(1, 1, 0), 1);
+        due.done("34 ints", x, x.sheet(3, 2, 1), 1);
+        due.done("34 the last number", x, x.cell(0, 39, 5), 1);
+        due.refused("34 sheet 4", x, x.sheet(4, 0, 1), 1);
+        due.refused("34 sheet -1", x, x.sheet(-1, -1, 1), 1);
+        due.refused("34 sort 3", x, x.sheet(0, 3, 1), 1);
+        due.refused("34 sort -2", x, x.sheet(0, -2, 1), 1);
+        due.refused("34 size 41", x, x.sheet(0, 0, 41), 1);
+        due.refused("34 size -1", x, x.sheet(0, 0, -1), 1);
+        due.done("34 missing", x, x.sheet(3, -1, MIN), 1);
+        due.refused("34 it is missing", x, x.cell(3, 0, 0), 10);
+        x.sheet(2, 1, 2);
+        x.cell(2, 1, 7);
+        x.sheet(2, 1, 3);
+        due.done("34 all 0 again", x, x.forge(2, 1, 2), 0);
+    }
+
+    private static void cell() {
+        HeroSheet x = new HeroSheet();
+        x.sheet(0, 0, 3);
+        x.sheet(1, 1, 3);
+        due.refused("35 sheet 4", x, x.cell(4, 0, 0), 1);
+        due.refused("35 sheet -1", x, x.cell(-1, 0, 0), 1);
+        due.refused("35 1001", x, x.cell(0, 0, 1001), 1);
+        due.refused("35 -1001, of a missing one", x, x.cell(3, 0, -1001), 1);
+        due.refused("35 missing, place outside", x, x.cell(3, -1, 0), 10);
+        due.refused("35 place 3", x, x.cell(0, 3, 0), 12);
+        due.refused("35 place -1", x, x.cell(0, -1, 0), 12);
+        int[][] cuts = {{127, 127}, {128, -128}, {255, -1}, {256, 0}, {1000, -24}, {-1000, 24}, {-128, -128}, {-129, 127}};
+        for (int[] cut : cuts) {
+            due.done("35 byte " + cut[0], x, x.cell(0, 1, cut[0]), 1);
+            due.done("35 byte " + cut[0] + " is", x, x.forge(3, 1, 0), cut[1]);
+            due.done("35 short " + cut[0], x, x.cell(1, 1, cut[0]), 1);
+            due.done("35 short " + cut[0] + " is", x, x.forge(2, 1, 1), cut[0]);
+        }
+    }
+
+    private static void put(HeroSheet x, int sheet, int... numbers) {
+        for (int i = 0; i < numbers.length; i++) {
+            x.cell(sheet, i, numbers[i]);
+        }
+    }
+
+    private static void row() {
+        HeroSheet x = five();
+        x.sheet(0, 2, 5);
+        put(x, 0, 9, 1, -1000, 20, 3);
+        x.test(1, 6);
+        due.done("36 from place 1 on", x, x.row(0, 2, 1), 0);
+        int[] told = {0, 1, 0, 20, 0, 1, 0, 1, -1};
+        for (int what = 0; what < told.length; what++) {
+            due.is("36 rule told " + what, x.ruleTold(0, what), told[what]);
+        }
+        due.is("36 amount", x.amount(0), -1000);
+        due.is("36 the test", x.number(1, 64), 2 - 1000);
+        due.refused("36 no such value", x, x.row(0, 2, 0), 3);
+        due.refused("36 value below 0", x, x.row(0, 2, 2), 3);
+        put(x, 0, 4, 5, 21);
+        due.refused("36 source 21", x, x.row(0, 2, 0), 3);
+        put(x, 0, 4, 5, -1);
+        due.refused("36 source -1", x, x.row(0, 2, 0), 3);
+        put(x, 0, 4, 5, 0);
+        due.done("36 source 0", x, x.row(0, 2, 0), 1);
+        x.sheet(1, 0, 3);
+        put(x, 1, 3, 5, 0);
+        due.done("36 by bytes", x, x.row(1, 0, 0), 2);
+        x.testValue(3, false, 0);
+        due.refused("36 a ring", x, x.row(1, 0, 0), 4);
+        due.is("36 the ring", x.ring(0), 3);
+        due.is("36 three rules", x.count(1), 3);
+    }
+
+    private static void rowOrder() {
+        HeroSheet x = five();
+        x.sheet(0, 1, 4);
+        x.sheet(2, 1, 0);
+        put(x, 0, 0, 1, 0, 99);
+        due.refused("36 sheet 4", x, x.row(4, 1, 0), 1);
+        due.refused("36 sheet -1", x, x.row(-1, 1, 0), 1);
+        due.refused("36 sort 3", x, x.row(0, 3, 0), 1);
+        due.refused("36 sort -1", x, x.row(0, -1, 0), 1);
+        due.refused("36 missing", x, x.row(1, 0, -1), 10);
+        due.refused("36 another sort, place outside", x, x.row(0, 2, -1), 11);
+        due.refused("36 place -1", x, x.row(0, 1, -1), 12);
+        due.refused("36 place 2", x, x.row(0, 1, 2), 12);
+        due.refused("36 place far", x, x.row(0, 1, MAX), 12);
+        due.refused("36 place least", x, x.row(0, 1, MIN), 12);
+        due.refused("36 no numbers", x, x.row(2, 1, 0), 12);
+        due.refused("36 place 1 tells none", x, x.row(0, 1, 1), 3);
+        for (int i = 0; i < 30; i++) {
+            due.done("36 rule " + i, x, x.row(0, 1, 0), i);
+        }
+        due.refused("36 full", x, x.row(0, 1, 0), 2);
+        due.refused("36 full before missing", x, x.row(1, 1, 0), 2);
+        due.refused("36 full before what tells none", x, x.row(0, 1, 1), 2);
+        due.refused("36 wrong before full", x, x.row(0, 3, 0), 1);
+    }
+
+    private static void forgeKinds() {
+        HeroSheet x = seven();
+        for (int rule = 0; rule < 7; rule++) {
+            for (int kind = 0; kind < 7; kind++) {
+                boolean under = kind == 0 || kind == rule || (kind == 5 && rule == 6);
+                String call = "37 rule " + rule + " for kind " + kind;
+                for (int n = kind - 98; n <= 100; n += 7) {
+                    if (under) {
+                        due.done(call, x, x.forge(0, n, rule), rule);
+                    } else {
+                        due.refused(call, x, x.forge(0, n, rule), 11);
+                    }
+                }
+            }
+            due.done("37 modulo 30", x, x.forge(0, 0, rule - 60), rule);
+            due.done("37 modulo 30", x, x.forge(0, 0, rule + 90), rule);
+            if (rule >= 5) {
+                due.done("37 among opens " + rule, x, x.forge(4, 0, rule), rule);
+            } else {
+                due.refused("37 among opens " + rule, x, x.forge(4, 0, rule - 90), 14);
+            }
+        }
+        due.refused("37 no rule", x, x.forge(0, 0, 7), 10);
+        due.refused("37 no rule below", x, x.forge(0, 3, -1), 10);
+        due.done("37 none among opens", x, x.forge(4, 0, 7), 0);
+        due.is("37 nothing changed", x.count(1), 7);
+    }
+
+    private static void forgeRows() {
+        HeroSheet x = new HeroSheet();
+        x.sheet(0, 0, 5);
+        put(x, 0, 1, 20, -3, 100, 60);
+        x.sheet(1, 1, 2);
+        put(x, 1, -1, 1000);
+        x.sheet(2, 2, 9);
+        due.done("37 a short below 0", x, x.forge(2, 0, 1), -1);
+        due.done("37 a short, sheet modulo 4", x, x.forge(2, 1, -3), 1000);
+        due.refused("37 a short outside", x, x.forge(2, 2, 1), 12);
+        due.refused("37 a short before", x, x.forge(2, -1, 1), 12);
+        due.refused("37 bytes for shorts", x, x.forge(2, 0, 0), 11);
+        due.refused("37 ints for shorts, outside", x, x.forge(2, 99, 2), 11);
+        due.refused("37 missing for shorts", x, x.forge(2, -1, 3), 10);
+        due.done("37 none copied", x, x.forge(3, 0, 0), 0);
+        due.done("37 two copied", x, x.forge(3, 2, 0), 17);
+        due.done("37 three copied", x, x.forge(3, 3, 96), 117);
+        due.refused("37 four copied", x, x.forge(3, 4, 0), 12);
+        due.refused("37 below 0 copied", x, x.forge(3, -1, 0), 12);
+        due.refused("37 shorts copied", x, x.forge(3, 0, 1), 11);
+        due.refused("37 ints copied, outside", x, x.forge(3, -1, 2), 11);
+        due.refused("37 missing copied", x, x.forge(3, -1, 3), 10);
+        x.sheet(3, 0, 0);
+        due.refused("37 none of none copied", x, x.forge(3, 0, 3), 12);
+        x.sheet(3, 0, 1);
+        due.done("37 none of one copied", x, x.forge(3, 0, 3), 0);
+        due.refused("37 one of one copied", x, x.forge(3, 1, 3), 12);
+        x.sheet(3, 0, 4);
+        due.done("37 three of four copied", x, x.forge(3, 3, 3), 0);
+        x.sheet(3, 0, 3);
+        due.refused("37 three of three copied", x, x.forge(3, 3, 3), 12);
+    }
+
+    private static void forgeOthers() {
+        HeroSheet x = new HeroSheet();
+        due.refused("37 what 7", x, x.forge(7, 0, 0), 1);
+        due.refused("37 what -1", x, x.forge(-1, 0, 0), 1);
+        for (int what = 0; what <= 6; what++) {
+            due.refused("37 n 101, what " + what, x, x.forge(what, 101, 0), 1);
+            due.refused("37 n -101, what " + what, x, x.forge(what, -101, 0), 1);
+            due.refused("37 k 101, what " + what, x, x.forge(what, 1, 101), 1);
+            due.refused("37 k -101, what " + what, x, x.forge(what, 1, -101), 1);
+        }
+        due.done("37 a row of 0", x, x.forge(1, 0, 0), 0);
+        due.done("37 a row of 100", x, x.forge(1, 100, -100), 100);
+        due.refused("37 a row of -1", x, x.forge(1, -1, 0), 13);
+        due.refused("37 by 0", x, x.forge(5, 0, 100), 15);
+        due.done("37 by 7", x, x.forge(5, 7, 0), 142);
+        due.done("37 by -7", x, x.forge(5, -7, 0), -142);
+        due.done("37 by -100", x, x.forge(5, -100, 0), -10);
+        due.refused("37 none is thrown", x, x.forge(6, 0, 0), 10);
+        due.refused("37 none is thrown, -2", x, x.forge(6, -2, 0), 10);
+        due.done("37 one is thrown", x, x.forge(6, 1, 0), 1);
+        due.done("37 one is thrown, -1", x, x.forge(6, -1, 0), 1);
+    }
+
+    private static void status() {
+        HeroSheet x = five();
+        due.is("38 done", x.status(), 0);
+        x.value(9, 0, 0);
+        due.is("38 wrong", x.status(), 1);
+        due.is("38 asked again", x.status(), 1);
+        x.make(0, false);
+        due.is("38 not so", x.status(), 3);
+        x.rule(0, 0, 0, 0, 16);
+        due.is("38 a ring", x.status(), 4);
+        x.cell(0, 0, 0);
+        due.is("38 nothing there", x.status(), 10);
+        x.image();
+        due.is("38 image", x.status(), 0);
+        x.forge(1, -1, 0);
+        due.is("38 below 0", x.status(), 13);
+        x.back();
+        due.is("38 back", x.status(), 0);
+        x.rule(0, 0, 0, 5, -1);
+        x.forge(4, 0, 0);
+        due.is("38 a misfit", x.status(), 14);
+        x.act(0, 2, -1);
+        due.is("38 an act that answers -1", x.status(), 0);
+        x.stack(0, true);
+        x.turn();
+        due.is("38 turn", x.status(), 0);
+        x.free(9, true);
+        x.rest();
+        due.is("38 rest", x.status(), 0);
+    }
+}
