@@ -489,7 +489,7 @@ public final class HeroSheet {
         int aim = rows[sheet][i];
         int amount = rows[sheet][i + 1];
         int source = rows[sheet][i + 2];
-        if (source < 0 || source > SOURCES || !canBeRule(RULE, aim, source << 4, amount, NONE)) {
+        if (!canBeRule(RULE, aim, source << 4, amount, NONE)) {
             return refused(NOT_SO);
         }
         return entered(new Rule(RULE, now.rules, comingTest, aim, source << 4, amount, NONE));

@@ -27,12 +27,8 @@ public final class AskingTest {
         due.end();
     }
 
-    private static HeroSheet five() {
-        return BuildingTest.five();
-    }
-
     private static void valueTold() {
-        HeroSheet x = five();
+        HeroSheet x = Due.five();
         x.spend(2, 4);
         int[][] told = {{0, 10, 0, 0, 0, 0}, {1, 2, 0, 0, 0, 0}, {2, 5, 4, 0, 0, 0}, {3, 1, 0, 2, 6, 0}, {4, 0, 0, 0, 0, 0}};
         for (int v = 0; v < 5; v++) {
@@ -62,7 +58,7 @@ public final class AskingTest {
     }
 
     private static void number() {
-        HeroSheet x = five();
+        HeroSheet x = Due.five();
         x.test(1, 0);
         x.rule(0, 0, 0, 5, -1);
         due.is("17 as it is", x.number(0, -1), 10);
@@ -79,7 +75,7 @@ public final class AskingTest {
     }
 
     private static void numberByParts() {
-        HeroSheet x = five();
+        HeroSheet x = Due.five();
         x.rule(0, 1, 0, 0, 3 + 16 * 5);
         due.is("17 halves cut towards 0", x.number(1, 0), 2 + 2);
         x.rule(2, 3, 0, -1, -1);
@@ -115,7 +111,7 @@ public final class AskingTest {
     }
 
     private static void ruleTold() {
-        HeroSheet x = five();
+        HeroSheet x = Due.five();
         x.test(1, 2);
         x.typed(4, 3, 7 + 16 * 11, 1, -1);
         x.rule(4, 0, 0, 0, -1);
@@ -146,7 +142,7 @@ public final class AskingTest {
     }
 
     private static void howRulesAre() {
-        HeroSheet x = five();
+        HeroSheet x = Due.five();
         x.rule(0, 0, 0, 0, -1);
         x.typed(1, 0, 16 * 2, 5, -1);
         x.typed(1, 0, 0, 7, -1);
@@ -156,7 +152,8 @@ public final class AskingTest {
         x.typed(1, 0, 0, 0, -1);
         x.rule(0, 0, 16 * 2, 9, -1);
         x.typed(2, 1, 0, 9, -1);
-        int[][] typed = {{2, -1}, {4, 2}, {2, -1}, {4, 2}, {4, 5}, {2, -1}, {4, -1}, {3, 1}, {2, -1}};
+        x.typed(1, 0, 0, -2, -1);
+        int[][] typed = {{2, -1}, {4, 2}, {2, -1}, {4, 2}, {4, 5}, {2, -1}, {4, -1}, {3, 1}, {2, -1}, {4, 5}};
         for (int r = 0; r < typed.length; r++) {
             how(x, r, typed[r][0], typed[r][1]);
         }
@@ -164,7 +161,7 @@ public final class AskingTest {
         how(x, 1, 2, -1);
         how(x, 6, 2, -1);
         how(x, 7, 3, 1);
-        HeroSheet y = five();
+        HeroSheet y = Due.five();
         y.rule(2, 2, 1, 5, -1);
         y.rule(2, 2, 2, 6, -1);
         y.rule(2, 2, 2, 7, -1);
@@ -173,7 +170,8 @@ public final class AskingTest {
         y.rule(7, 2, 0, 8, -1);
         y.rule(7, 2, 0, 7, -1);
         y.rule(3, 2, 0, 4, -1);
-        int[][] others = {{4, 1}, {2, -1}, {4, 1}, {2, -1}, {4, -1}, {2, -1}, {4, -1}, {2, -1}};
+        y.rule(7, 2, 0, 8, -1);
+        int[][] others = {{4, 1}, {2, -1}, {4, 1}, {2, -1}, {4, -1}, {2, -1}, {4, -1}, {2, -1}, {4, -1}};
         for (int r = 0; r < others.length; r++) {
             how(y, r, others[r][0], others[r][1]);
         }
@@ -181,7 +179,7 @@ public final class AskingTest {
     }
 
     private static void amount() {
-        HeroSheet x = five();
+        HeroSheet x = Due.five();
         x.test(1, 0);
         x.rule(0, 1, 0, 3, 3 + 16 * 3);
         x.rule(3, 1, 0, -7, -1);
@@ -237,7 +235,7 @@ public final class AskingTest {
     }
 
     private static void needs() {
-        HeroSheet x = five();
+        HeroSheet x = Due.five();
         x.rule(0, 1, 0, 0, 16);
         x.testValue(1, false, 0);
         x.rule(2, 2, 0, 0, -1);
@@ -255,7 +253,7 @@ public final class AskingTest {
     }
 
     private static void choice() {
-        HeroSheet x = five();
+        HeroSheet x = Due.five();
         x.free(0, true);
         x.rule(6, 0, 0, 0, -1);
         x.test(2, 1);
@@ -278,7 +276,7 @@ public final class AskingTest {
 
     /** Choice 0 is free, 1 is opened by 0, 2 by 1; 3 is free and barred by 2; 4 is opened by 5 and 5 by 4. */
     private static HeroSheet chain() {
-        HeroSheet x = five();
+        HeroSheet x = Due.five();
         x.free(0, true);
         x.free(3, true);
         opens(x, 5, 1, 0);
@@ -329,6 +327,14 @@ public final class AskingTest {
         x.make(5, true);
         due.is("24 with both", x.mend(), 59);
         due.is("24 it is only told", x.count(5), 63);
+        HeroSheet all = new HeroSheet();
+        for (int c = 0; c < 8; c++) {
+            all.free(c, true);
+            all.make(c, true);
+        }
+        due.is("24 all eight", all.mend(), 255);
+        due.is("31 all lawful", all.count(6), 256);
+        wayIs(all, 255, 0, 1, 2, 3, 4, 5, 6, 7);
     }
 
     private static void most() {
@@ -367,7 +373,7 @@ public final class AskingTest {
     }
 
     private static void both() {
-        HeroSheet x = five();
+        HeroSheet x = Due.five();
         int[][] boons = {{3, -3}, {2, -2}, {0, 0}, {-1, 0}};
         for (int c = 0; c < 4; c++) {
             x.free(c, true);
@@ -410,13 +416,13 @@ public final class AskingTest {
         x.free(0, false);
         wayIs(x, 73, 3, 6, 0);
         // 3 and 5 are both free, but 3 bars 5, so that no order of the two ends lawfully.
-        HeroSheet y = five();
+        HeroSheet y = Due.five();
         y.free(3, true);
         y.free(5, true);
         opens(y, 6, 5, 3);
         wayIs(y, 40);
         // 1 is barred until 2 is made, so that the greater one comes first.
-        HeroSheet z = five();
+        HeroSheet z = Due.five();
         z.free(1, true);
         z.free(2, true);
         z.test(2, 2);
@@ -425,7 +431,7 @@ public final class AskingTest {
     }
 
     private static void dice() {
-        HeroSheet x = five();
+        HeroSheet x = Due.five();
         long[] told = {3, 13, 8, 1};
         for (int what = 0; what < 4; what++) {
             due.is("29 what " + what, x.dice(3, what), told[what]);
@@ -455,7 +461,7 @@ public final class AskingTest {
     }
 
     private static void chance() {
-        HeroSheet x = five();
+        HeroSheet x = Due.five();
         chanceIs(x, 3, 3, false, 1, 1);
         chanceIs(x, 3, 4, false, 35, 36);
         chanceIs(x, 3, 8, false, 7, 12);
@@ -480,7 +486,7 @@ public final class AskingTest {
     }
 
     private static void count() {
-        HeroSheet x = five();
+        HeroSheet x = Due.five();
         x.rule(0, 0, 0, 1, -1);
         x.rule(0, 0, 0, 1, 16);
         x.spell(0, 1, 1);
@@ -500,7 +506,7 @@ public final class AskingTest {
     }
 
     private static void questionsKeepStatus() {
-        HeroSheet x = five();
+        HeroSheet x = Due.five();
         x.sheet(0, 0, -1);
         x.forge(5, 0, 0);
         x.valueTold(9, 9);

@@ -25,17 +25,6 @@ public final class BuildingTest {
         due.end();
     }
 
-    /** Values 0 .. 4, one of each kind: bases 10, 2, 5, 1 (2 dice of 6 sides), 0. */
-    static HeroSheet five() {
-        HeroSheet x = new HeroSheet();
-        x.value(0, 10, 0);
-        x.value(1, 2, 0);
-        x.value(2, 5, 0);
-        x.value(3, 1, 2 + 8 * 6);
-        x.value(4, 0, 0);
-        return x;
-    }
-
     private static void newObject() {
         HeroSheet x = new HeroSheet();
         for (int what = 0; what <= 8; what++) {
@@ -102,7 +91,7 @@ public final class BuildingTest {
     }
 
     private static void test() {
-        HeroSheet x = five();
+        HeroSheet x = Due.five();
         due.done("4 made", x, x.test(1, 3), 1);
         x.rule(0, 0, 0, 1, -1);
         due.done("4 not made", x, x.test(2, 3), 1);
@@ -120,7 +109,7 @@ public final class BuildingTest {
     }
 
     private static void testValue() {
-        HeroSheet x = five();
+        HeroSheet x = Due.five();
         due.done("5 at least 10", x, x.testValue(0, false, 10), 1);
         x.rule(0, 1, 0, 1, -1);
         due.done("5 at least 11", x, x.testValue(0, false, 11), 1);
@@ -144,7 +133,7 @@ public final class BuildingTest {
     }
 
     private static void rule() {
-        HeroSheet x = five();
+        HeroSheet x = Due.five();
         due.done("6 a rule", x, x.rule(0, 0, 9 + 16 * 20, 1000, 3 + 16 * 9), 0);
         due.done("6 a set", x, x.rule(2, 1, 0, -1000, -1), 1);
         due.done("6 at most", x, x.rule(3, 1, 0, 0, -1), 2);
@@ -161,7 +150,7 @@ public final class BuildingTest {
         due.is("6 source", x.ruleTold(0, 3), 20);
         due.is("6 rank of an instead", x.ruleTold(4, 2), 5);
         due.is("6 source of an instead", x.ruleTold(4, 3), 7);
-        HeroSheet full = five();
+        HeroSheet full = Due.five();
         for (int i = 0; i < 30; i++) {
             due.done("6 rule " + i, full, full.rule(0, 0, 0, 1, -1), i);
         }
@@ -173,7 +162,7 @@ public final class BuildingTest {
     }
 
     private static void ruleRefusals() {
-        HeroSheet x = five();
+        HeroSheet x = Due.five();
         due.refused("6 kind 1", x, x.rule(1, 0, 0, 0, -1), 1);
         due.refused("6 kind 8", x, x.rule(8, 0, 0, 0, -1), 1);
         due.refused("6 kind -1", x, x.rule(-1, 0, 0, 0, -1), 1);
@@ -204,7 +193,7 @@ public final class BuildingTest {
     }
 
     private static void ringRefusals() {
-        HeroSheet x = five();
+        HeroSheet x = Due.five();
         due.refused("6 reads its aim", x, x.rule(0, 3, 0, 0, 3 + 16), 4);
         x.rule(0, 1, 0, 0, 16);
         due.refused("6 two in a ring", x, x.rule(2, 0, 0, 0, 1 + 16), 4);
@@ -216,7 +205,7 @@ public final class BuildingTest {
     }
 
     private static void typed() {
-        HeroSheet x = five();
+        HeroSheet x = Due.five();
         due.refused("7 type 0", x, x.typed(0, 0, 0, 0, -1), 1);
         due.refused("7 type 6", x, x.typed(6, 0, 0, 0, -1), 1);
         due.refused("7 aim 5", x, x.typed(1, 5, 0, 0, -1), 1);
@@ -238,7 +227,7 @@ public final class BuildingTest {
     }
 
     private static void stack() {
-        HeroSheet x = five();
+        HeroSheet x = Due.five();
         x.typed(2, 0, 0, 3, -1);
         x.typed(2, 0, 0, 4, -1);
         x.typed(2, 0, 0, -1, -1);
@@ -270,8 +259,10 @@ public final class BuildingTest {
     }
 
     private static void spell() {
-        HeroSheet x = five();
+        HeroSheet x = Due.five();
+        due.is("10 before", x.number(0, 0), 10);
         due.done("10 one", x, x.spell(0, 20, 1), 1);
+        due.is("10 after", x.number(0, 0), 30);
         due.done("10 two", x, x.spell(0, -20, 20), 2);
         due.done("10 three", x, x.spell(4, 5, 2), 3);
         due.is("10 on its value", x.number(0, 0), 10);
@@ -294,7 +285,7 @@ public final class BuildingTest {
     }
 
     private static void turn() {
-        HeroSheet x = five();
+        HeroSheet x = Due.five();
         x.spell(0, 1, 1);
         x.spell(0, 2, 2);
         x.spell(1, 3, 2);
@@ -315,7 +306,7 @@ public final class BuildingTest {
     }
 
     private static void spend() {
-        HeroSheet x = five();
+        HeroSheet x = Due.five();
         due.refused("12 below 0", x, x.spend(2, 6), 3);
         due.done("12 some", x, x.spend(2, 2), 3);
         due.is("12 spent", x.valueTold(2, 2), 2);
@@ -357,12 +348,13 @@ public final class BuildingTest {
     }
 
     private static void rest() {
-        HeroSheet x = five();
+        HeroSheet x = Due.five();
         x.value(2, 9, 0);
         x.value(2, 9, 0);
         due.done("13 none had", x, x.rest(), 0);
         x.spend(2, 1);
         x.spend(6, 2);
+        due.is("13 number before", x.number(6, 0), 7);
         due.done("13 two had", x, x.rest(), 2);
         due.is("13 nothing spent", x.valueTold(2, 2), 0);
         due.is("13 number", x.number(6, 0), 9);
@@ -370,7 +362,7 @@ public final class BuildingTest {
     }
 
     private static void image() {
-        HeroSheet x = five();
+        HeroSheet x = Due.five();
         x.make(1, true);
         due.done("14 image", x, x.image(), 1);
         x.make(2, true);
@@ -385,7 +377,7 @@ public final class BuildingTest {
     }
 
     private static void back() {
-        HeroSheet x = five();
+        HeroSheet x = Due.five();
         due.refused("15 none", x, x.back(), 3);
         x.free(0, true);
         x.make(1, true);
@@ -397,7 +389,10 @@ public final class BuildingTest {
         x.spend(2, 1);
         x.image();
         change(x);
+        due.is("15 number before", x.number(0, -1), 10 + 2);
+        due.is("15 choice before", x.choice(0, 2), 0);
         due.done("15 back", x, x.back(), 1);
+        due.is("15 choice after", x.choice(0, 2), 1);
         int[] counts = {5, 2, 1, 1, 1, 2, 2};
         for (int what = 0; what < counts.length; what++) {
             due.is("15 count " + what, x.count(what), counts[what]);

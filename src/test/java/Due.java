@@ -1,7 +1,18 @@
-/** Collects the answers that are not as due. */
+/** Collects the answers that are not as due; and a sheet to begin with. */
 final class Due {
     private int wrong = 0;
     private int seen = 0;
+
+    /** Values 0 .. 4, one of each kind: bases 10, 2, 5, 1 (2 dice of 6 sides), 0. */
+    static HeroSheet five() {
+        HeroSheet x = new HeroSheet();
+        x.value(0, 10, 0);
+        x.value(1, 2, 0);
+        x.value(2, 5, 0);
+        x.value(3, 1, 2 + 8 * 6);
+        x.value(4, 0, 0);
+        return x;
+    }
 
     void is(String call, long got, long want) {
         seen++;

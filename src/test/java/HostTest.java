@@ -18,13 +18,9 @@ public final class HostTest {
         due.end();
     }
 
-    private static HeroSheet five() {
-        return BuildingTest.five();
-    }
-
     /** Rules 0 .. 6 of kinds 0 .. 6, each with rank 3 and source 2. */
     private static HeroSheet seven() {
-        HeroSheet x = five();
+        HeroSheet x = Due.five();
         int more = 3 + 16 * 2;
         x.rule(0, 0, more, 1, -1);
         x.typed(1, 0, more, 1, -1);
@@ -133,7 +129,7 @@ public final class HostTest {
     }
 
     private static void row() {
-        HeroSheet x = five();
+        HeroSheet x = Due.five();
         x.sheet(0, 2, 5);
         put(x, 0, 9, 1, -1000, 20, 3);
         x.test(1, 6);
@@ -162,7 +158,7 @@ public final class HostTest {
     }
 
     private static void rowOrder() {
-        HeroSheet x = five();
+        HeroSheet x = Due.five();
         x.sheet(0, 1, 4);
         x.sheet(2, 1, 0);
         put(x, 0, 0, 1, 0, 99);
@@ -272,7 +268,7 @@ public final class HostTest {
     }
 
     private static void status() {
-        HeroSheet x = five();
+        HeroSheet x = Due.five();
         due.is("38 done", x.status(), 0);
         x.value(9, 0, 0);
         due.is("38 wrong", x.status(), 1);
