@@ -6,14 +6,20 @@ public final class HostTest {
 
     public static void main(String[] args) {
         acts();
+        actsThatWrap();
         actRefusals();
         sheet();
+        sheetsFromEmptyToFull();
         cell();
         row();
+        rowAtTheEdges();
         rowOrder();
         forgeKinds();
+        forgeRules();
         forgeRows();
+        forgeCopies();
         forgeOthers();
+        forgeAllNumbers();
         status();
         due.end();
     }
@@ -71,6 +77,39 @@ public final class HostTest {
         actIs(x, 0, 2, 1, -1, 12);
     }
 
+    // Rank 9 and source 20 at both ends of 32 bits.
+    private static void actsThatWrap() {
+        HeroSheet x = Due.five();
+        int more = 9 + 16 * 20;
+        x.rule(0, 0, more, 1, -1);
+        x.typed(1, 0, more, 1, -1);
+        for (int kind = 2; kind <= 6; kind++) {
+            x.rule(kind, 0, more, 1, -1);
+        }
+        actIs(x, 0, 0, MAX, MIN + 8, 10);
+        actIs(x, 0, 0, MAX - 9, MAX, 10);
+        actIs(x, 0, 0, MAX - 8, MIN, 10);
+        actIs(x, 0, 1, MAX, 16, 11, 10);
+        actIs(x, 0, 1, 0x40000000, MIN + 18, 11, 10);
+        actIs(x, 0, 2, MIN, MAX - 19, 12);
+        actIs(x, 0, 2, MIN + 20, MIN, 12);
+        actIs(x, 0, 3, MAX, 0x7FFFFFFB, 13, 11, 10, 12);
+        actIs(x, 1, 0, MAX - 9, MIN, 20, 10);
+        actIs(x, 1, 0, MAX - 10, MAX, 20, 10);
+        actIs(x, 2, 1, MAX, MIN + 8, 30, 11, 10, 10);
+        actIs(x, 3, 3, MAX, 0x7FFFFFEB - 0x7FFFFFFE, 40, 12, 13, 11, 10, 12);
+        actIs(x, 4, 2, MIN + 20, MIN, 50, 12);
+        actIs(x, 4, 2, MIN, 0x7FFFFFC4, 50, 12);
+        actIs(x, 5, 2, MIN, MAX - 10, 60, 12);
+        actIs(x, 5, 1, MIN, -22, 61, 11, 10);
+        actIs(x, 6, 0, MAX, (MIN + 8) ^ 5, 70, 10);
+        actIs(x, 6, 1, MIN, -43, 71, 61, 11, 70, 10, 60, 12);
+        actIs(x, 6, 2, MIN, MAX - 10, 60, 12);
+        // The longest trace that there is.
+        actIs(x, 6, 3, MIN, -43 ^ (MAX - 10), 13, 71, 61, 11, 70, 10, 60, 12, 60, 12);
+        actIs(x, 0, 2, 0, -20, 12);
+    }
+
     private static void actRefusals() {
         HeroSheet x = seven();
         x.act(0, 1, 0);
@@ -100,6 +139,34 @@ public final class HostTest {
         x.cell(2, 1, 7);
         x.sheet(2, 1, 3);
         due.done("34 all 0 again", x, x.forge(2, 1, 2), 0);
+    }
+
+    private static void sheetsFromEmptyToFull() {
+        int[] sizes = {0, 1, 2, 39, 40};
+        for (int sheet = 0; sheet < 4; sheet++) {
+            HeroSheet x = new HeroSheet();
+            for (int sort = 0; sort <= 2; sort++) {
+                for (int size : sizes) {
+                    due.done("34 sort " + sort + " of " + size, x, x.sheet(sheet, sort, size), 1);
+                    due.refused("35 after the last of " + size, x, x.cell(sheet, size, 1), 12);
+                    due.refused("35 before the first of " + size, x, x.cell(sheet, -1, 1), 12);
+                    if (size > 0) {
+                        due.done("35 the last of " + size, x, x.cell(sheet, size - 1, 1), 1);
+                        due.done("35 the first of " + size, x, x.cell(sheet, 0, 1), 1);
+                    }
+                }
+            }
+            for (int other = 0; other < 4; other++) {
+                due.is("34 the others are missing", x.cell(other, 0, 0), other == sheet ? 1 : -1);
+            }
+            due.done("34 missing", x, x.sheet(sheet, -1, 41), 1);
+            due.refused("35 it is missing", x, x.cell(sheet, 0, 0), 10);
+            due.done("34 missing again", x, x.sheet(sheet, -1, -1), 1);
+            due.done("34 it is there again", x, x.sheet(sheet, 1, 40), 1);
+            for (int i = 0; i < 40; i++) {
+                due.done("34 all 0", x, x.forge(2, i, sheet), 0);
+            }
+        }
     }
 
     private static void cell() {
@@ -157,6 +224,45 @@ public final class HostTest {
         due.is("36 three rules", x.count(1), 3);
     }
 
+    private static void rowAtTheEdges() {
+        int[][] tells = {{0, 1000, 20}, {4, -1000, 0}, {1, 0, 1}};
+        int[][] none = {{5, 0, 0}, {-1, 0, 0}, {1000, 0, 0}, {-1000, 0, 0}, {0, 0, 21}, {0, 0, -1}, {0, 0, 1000}, {0, 0, -1000}};
+        for (int sort = 1; sort <= 2; sort++) {
+            HeroSheet x = Due.five();
+            x.sheet(0, sort, 3);
+            for (int i = 0; i < tells.length; i++) {
+                put(x, 0, tells[i]);
+                due.done("36 they tell one", x, x.row(0, sort, 0), i);
+                due.is("36 its aim", x.ruleTold(i, 1), tells[i][0]);
+                due.is("36 its amount", x.amount(i), tells[i][1]);
+                due.is("36 its source", x.ruleTold(i, 3), tells[i][2]);
+                due.is("36 its rank", x.ruleTold(i, 2), 0);
+                due.is("36 its kind", x.ruleTold(i, 0), 0);
+            }
+            for (int[] numbers : none) {
+                put(x, 0, numbers);
+                due.refused("36 they tell none: " + numbers[0] + " " + numbers[2], x, x.row(0, sort, 0), 3);
+            }
+        }
+        HeroSheet x = Due.five();
+        x.sheet(0, 0, 40);
+        put(x, 0, 256, -129, 256 + 20);
+        due.done("36 as they are cut", x, x.row(0, 0, 0), 0);
+        due.is("36 the cut amount", x.amount(0), 127);
+        due.is("36 the cut source", x.ruleTold(0, 3), 20);
+        due.done("36 the last place", x, x.row(0, 0, 37), 1);
+        due.refused("36 two are left", x, x.row(0, 0, 38), 12);
+        due.refused("36 one is left", x, x.row(0, 0, 39), 12);
+        due.refused("36 none is left", x, x.row(0, 0, 40), 12);
+        for (int size = 0; size <= 3; size++) {
+            x.sheet(1, 1, size);
+            due.is("36 of " + size, x.row(1, 1, 0), size < 3 ? -1 : 2);
+            due.is("36 of " + size + ", status", x.status(), size < 3 ? 12 : 0);
+        }
+        x.sheet(1, -1, 0);
+        due.refused("36 it is missing now", x, x.row(1, 1, 0), 10);
+    }
+
     private static void rowOrder() {
         HeroSheet x = Due.five();
         x.sheet(0, 1, 4);
@@ -184,30 +290,37 @@ public final class HostTest {
     }
 
     private static void forgeKinds() {
-        HeroSheet x = seven();
         for (int rule = 0; rule < 7; rule++) {
-            for (int kind = 0; kind < 7; kind++) {
+            HeroSheet x = seven();
+            for (int n = -100; n <= 100; n++) {
+                int kind = Math.floorMod(n, 7);
                 boolean under = kind == 0 || kind == rule || (kind == 5 && rule == 6);
-                String call = "37 rule " + rule + " for kind " + kind;
-                for (int n = kind - 98; n <= 100; n += 7) {
-                    if (under) {
-                        due.done(call, x, x.forge(0, n, rule), rule);
-                    } else {
-                        due.refused(call, x, x.forge(0, n, rule), 11);
-                    }
+                String call = "37 rule " + rule + " for kind " + n;
+                if (under) {
+                    due.done(call, x, x.forge(0, n, rule), rule);
+                } else {
+                    due.refused(call, x, x.forge(0, n, rule), 11);
                 }
             }
-            due.done("37 modulo 30", x, x.forge(0, 0, rule - 60), rule);
-            due.done("37 modulo 30", x, x.forge(0, 0, rule + 90), rule);
-            if (rule >= 5) {
-                due.done("37 among opens " + rule, x, x.forge(4, 0, rule), rule);
+        }
+    }
+
+    private static void forgeRules() {
+        HeroSheet x = seven();
+        HeroSheet y = seven();
+        for (int k = -100; k <= 100; k++) {
+            int rule = Math.floorMod(k, 30);
+            if (rule < 7) {
+                due.done("37 rule " + k, x, x.forge(0, 0, k), rule);
             } else {
-                due.refused("37 among opens " + rule, x, x.forge(4, 0, rule - 90), 14);
+                due.refused("37 no rule " + k, x, x.forge(0, 0, k), 10);
+            }
+            if (rule < 5) {
+                due.refused("37 among opens " + k, y, y.forge(4, k, k), 14);
+            } else {
+                due.done("37 among opens " + k, y, y.forge(4, k, k), rule < 7 ? rule : 0);
             }
         }
-        due.refused("37 no rule", x, x.forge(0, 0, 7), 10);
-        due.refused("37 no rule below", x, x.forge(0, 3, -1), 10);
-        due.done("37 none among opens", x, x.forge(4, 0, 7), 0);
         due.is("37 nothing changed", x.count(1), 7);
     }
 
@@ -242,6 +355,58 @@ public final class HostTest {
         due.done("37 three of four copied", x, x.forge(3, 3, 3), 0);
         x.sheet(3, 0, 3);
         due.refused("37 three of three copied", x, x.forge(3, 3, 3), 12);
+    }
+
+    // Numbers 1 .. n stand at places 1 on; in a row of 6 they have to stand at n .. 2n - 1.
+    private static void forgeCopies() {
+        int[] sizes = {0, 1, 2, 3, 4, 5, 7, 8, 40};
+        for (int size : sizes) {
+            HeroSheet x = new HeroSheet();
+            x.sheet(2, 0, size);
+            for (int i = 0; i < size; i++) {
+                x.cell(2, i, i == 0 ? 100 : 2 * i - 1);
+            }
+            for (int n = -2; n <= 8; n++) {
+                String name = "37 " + n + " copied of " + size;
+                if (n >= 0 && n <= 3 && n < size) {
+                    due.done(name, x, x.forge(3, n, 2), n * n);
+                } else {
+                    due.refused(name, x, x.forge(3, n, 2), 12);
+                }
+            }
+            due.refused("37 100 copied", x, x.forge(3, 100, 2), 12);
+            due.refused("37 -100 copied", x, x.forge(3, -100, 2), 12);
+        }
+        HeroSheet x = new HeroSheet();
+        x.sheet(1, 0, 4);
+        put(x, 1, 0, -128, -128, -128);
+        due.done("37 a sum below what a byte holds", x, x.forge(3, 3, 1), -384);
+        x.sheet(1, 1, 40);
+        x.cell(1, 39, -1000);
+        due.done("37 the last short", x, x.forge(2, 39, 1), -1000);
+        due.refused("37 after the last short", x, x.forge(2, 40, 1), 12);
+        for (int k = -100; k <= 100; k++) {
+            int want = Math.floorMod(k, 4) == 1 ? -1000 : -1;
+            due.is("37 sheet " + k + " modulo 4", x.forge(2, 39, k), want);
+        }
+    }
+
+    private static void forgeAllNumbers() {
+        HeroSheet x = new HeroSheet();
+        for (int n = -100; n <= 100; n++) {
+            due.is("37 a row of " + n, x.forge(1, n, 0), Math.max(n, -1));
+            due.is("37 a row of " + n + ", status", x.status(), n < 0 ? 13 : 0);
+        }
+        HeroSheet y = new HeroSheet();
+        for (int n = -100; n <= 100; n++) {
+            due.is("37 1000 by " + n, y.forge(5, n, 0), n == 0 ? -1 : 1000 / n);
+            due.is("37 1000 by " + n + ", status", y.status(), n == 0 ? 15 : 0);
+        }
+        HeroSheet z = new HeroSheet();
+        for (int n = -100; n <= 100; n++) {
+            due.is("37 thrown " + n, z.forge(6, n, 0), n % 2 == 0 ? -1 : 1);
+            due.is("37 thrown " + n + ", status", z.status(), n % 2 == 0 ? 10 : 0);
+        }
     }
 
     private static void forgeOthers() {
