@@ -16,6 +16,7 @@ public final class LawTest {
         mostAndSeekEdges();
         mostOfLikes();
         bothEdges();
+        bothInOrder();
         wayEdges();
         wayAround();
         due.end();
@@ -278,6 +279,7 @@ public final class LawTest {
         HeroSheet y = free(2);
         boon(y, 0, 0, 1);
         due.is("27 greater in one, as great in the other", y.both(0, 1), 1);
+        due.is("27 as great in one, greater in the other", y.both(1, 0), 1);
         boon(y, 1, 0, -1);
         due.is("27 greater in one, less in the other", y.both(0, 1), 2);
         boon(y, 0, 1, -1);
@@ -289,6 +291,38 @@ public final class LawTest {
             due.is("27 value " + v + " first", y.both(v, 0), -1);
             due.is("27 value " + v + " second", y.both(0, v), -1);
         }
+    }
+
+    /** Of the choices at most one is lawful at a time; each has a pair of numbers of its own, the empty sheet the first. */
+    private static int bothOf(int[]... pairs) {
+        HeroSheet x = new HeroSheet();
+        x.value(1, pairs[0][0], 0);
+        x.value(1, pairs[0][1], 0);
+        for (int c = 0; c < pairs.length - 1; c++) {
+            x.free(c, true);
+            for (int v = 0; v < 2; v++) {
+                x.test(1, c);
+                x.rule(2, v, 0, pairs[c + 1][v], -1);
+            }
+            for (int d = 0; d < c; d++) {
+                by(x, 6, c, 1, d);
+            }
+        }
+        due.is("27 lawful sheets", x.count(6), pairs.length);
+        int turned = x.both(1, 0);
+        int straight = x.both(0, 1);
+        return turned == straight ? straight : -2;
+    }
+
+    private static void bothInOrder() {
+        due.is("27 each betters the one before", bothOf(new int[][] {{0, 0}, {1, 0}, {1, 1}, {2, 1}}), 1);
+        due.is("27 each is bettered by the one before", bothOf(new int[][] {{2, 1}, {1, 1}, {1, 0}, {0, 0}}), 1);
+        due.is("27 none betters another", bothOf(new int[][] {{0, 3}, {1, 2}, {2, 1}, {3, 0}}), 4);
+        due.is("27 the first one goes", bothOf(new int[][] {{1, 0}, {0, 5}, {2, 0}, {1, 3}, {0, 4}}), 3);
+        due.is("27 one that stays betters a later one", bothOf(new int[][] {{1, 0}, {0, 5}, {2, 0}, {-1, 4}}), 2);
+        due.is("27 the last betters all", bothOf(new int[][] {{0, 2}, {1, 1}, {2, 0}, {2, 2}}), 1);
+        due.is("27 the last betters some", bothOf(new int[][] {{0, 2}, {1, 1}, {2, 0}, {1, 2}}), 2);
+        due.is("27 the same once more", bothOf(new int[][] {{0, 2}, {2, 0}, {0, 2}, {2, 0}}), 2);
     }
 
     private static void wayIs(HeroSheet x, int bits, int... steps) {

@@ -152,6 +152,17 @@ public final class NumbersTest {
         x.rule(4, 0, 0, 0, -1);
         due.is("quarrel: the other is not there", x.valueTold(0, 5), 0);
         due.is("quarrel: one is left", x.number(0, -1), 2);
+        HeroSheet y = ten();
+        y.value(1, 0, 0);
+        y.value(1, 0, 0);
+        for (int v = 0; v <= 2; v += 2) {
+            y.rule(2, v, 0, 1, -1);
+            y.rule(2, v, 0, 2, -1);
+        }
+        int[] both = {1, 0, 1};
+        for (int v = 0; v <= 2; v++) {
+            due.is("quarrel: of two values, " + v, y.valueTold(v, 5), both[v]);
+        }
     }
 
     private static void typedAroundZero() {
@@ -199,6 +210,17 @@ public final class NumbersTest {
         due.is("typed: one that is not there beats none", x.number(0, 3), 10 + 15);
         x.rule(0, 0, 0, 100, -1);
         due.is("typed: rules of kind 0 all count", x.number(0, 3), 10 + 15 + 100);
+        HeroSheet y = ten();
+        y.value(1, 20, 0);
+        y.typed(1, 0, 0, -5, -1);
+        y.typed(1, 1, 0, -1, -1);
+        y.typed(2, 1, 0, -5, -1);
+        y.typed(2, 0, 0, -1, -1);
+        due.is("typed: below 0, of two values", y.number(0, 0), 10 - 5 - 1);
+        due.is("typed: below 0, of the other one", y.number(1, 0), 20 - 1 - 5);
+        for (int r = 0; r < 4; r++) {
+            how("typed: below 0, apart", y, r, 2, -1);
+        }
     }
 
     private static void stacking() {

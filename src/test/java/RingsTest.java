@@ -174,6 +174,19 @@ public final class RingsTest {
                 due.is("21 " + w + " needs " + v, x.needs(w, v), w < v ? 1 : 0);
             }
         }
+        HeroSheet y = values(10);
+        for (int v : order) {
+            needs(y, v + 1, v);
+        }
+        for (int w = 0; w < 10; w++) {
+            for (int v = 0; v < 10; v++) {
+                due.is("21 " + w + " needs the lesser " + v, y.needs(w, v), w > v ? 1 : 0);
+            }
+        }
+        HeroSheet z = values(3);
+        needs(z, 0, 2);
+        needs(z, 1, 0);
+        due.is("21 through the first value", z.needs(1, 2), 1);
         int[] none = {-1, 10, MIN, MAX};
         for (int v : none) {
             due.is("21 value " + v + " needs", x.needs(v, 0), -1);
