@@ -5,6 +5,27 @@ final class Heroes {
 
     /** Seven values, twelve rules of all kinds, spells, a ring, a trace, an image that differs, three sheets of numbers. */
     static HeroSheet rich() {
+        HeroSheet x = beforeImage();
+        x.image();
+        x.back();
+        x.back();
+        x.back();
+        changeAfterImage(x);
+        addSheets(x);
+        x.test(2, 4);
+        return x;
+    }
+
+    /** As rich(), but no image was ever kept. */
+    static HeroSheet richWithoutImage() {
+        HeroSheet x = beforeImage();
+        changeAfterImage(x);
+        addSheets(x);
+        x.test(2, 4);
+        return x;
+    }
+
+    private static HeroSheet beforeImage() {
         HeroSheet x = Due.five();
         x.value(2, 9, 0);
         x.value(1, -4, 0);
@@ -22,13 +43,6 @@ final class Heroes {
         x.make(5, true);
         x.rule(0, 0, 0, 0, 1 + 16);
         x.act(9, 3, 4);
-        x.image();
-        x.back();
-        x.back();
-        x.back();
-        changeAfterImage(x);
-        addSheets(x);
-        x.test(2, 4);
         return x;
     }
 
@@ -84,7 +98,10 @@ final class Heroes {
     }
 
     static HeroSheet tenValues() {
-        HeroSheet x = rich();
+        return tenValues(rich());
+    }
+
+    static HeroSheet tenValues(HeroSheet x) {
         for (int v = 7; v < 10; v++) {
             x.value(1, v, 0);
         }
@@ -92,7 +109,10 @@ final class Heroes {
     }
 
     static HeroSheet thirtyRules() {
-        HeroSheet x = rich();
+        return thirtyRules(rich());
+    }
+
+    static HeroSheet thirtyRules(HeroSheet x) {
         for (int r = 12; r < 30; r++) {
             x.rule(0, r % 7, 0, r, -1);
         }
@@ -100,7 +120,10 @@ final class Heroes {
     }
 
     static HeroSheet tenSpells() {
-        HeroSheet x = rich();
+        return tenSpells(rich());
+    }
+
+    static HeroSheet tenSpells(HeroSheet x) {
         for (int k = 3; k < 10; k++) {
             x.spell(1, k, k);
         }
@@ -113,14 +136,6 @@ final class Heroes {
             x.back();
         }
         x.make(7, true);
-        x.test(1, 3);
-        return x;
-    }
-
-    /** As five(), but no image was ever kept. */
-    static HeroSheet withoutImage() {
-        HeroSheet x = Due.five();
-        x.make(2, true);
         x.test(1, 3);
         return x;
     }

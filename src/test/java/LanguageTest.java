@@ -13,7 +13,7 @@ import java.util.regex.Pattern;
 
 /** The public face, and what of LANGUAGE.md can be seen in the source or the compiled class. */
 public final class LanguageTest {
-    private static final String FACE =
+    static final String FACE =
         "value:iii free:iz test:ii testValue:izi rule:iiiii typed:iiiii stack:iz make:iz spell:iii turn: spend:ii "
         + "rest: image: back: valueTold:ii number:ii ruleTold:ii amount:i ring:i needs:ii choice:ii lawful:i mend: "
         + "most:iiiz seek:iiiz both:ii way:ii dice:ii chance:iizi count:i act:iii trace:i sheet:iii cell:iii row:iii "

@@ -17,6 +17,7 @@ public final class NumbersTest {
         capsAtTheirAmount();
         capsInOrder();
         poolsAndTruths();
+        truthsAfterCaps();
         amountsCut();
         amountsRead();
         testsAtTheirNumber();
@@ -385,6 +386,20 @@ public final class NumbersTest {
         due.is("spent after at most, below 0", x.number(0, 0), -2);
         due.is("so none can be spent", x.spend(0, 1), -1);
         due.is("it is not so", x.status(), 3);
+    }
+
+    // A truth becomes 1 after its caps, so these see what it was before.
+    private static void truthsAfterCaps() {
+        int[][] caps = {{99, 3, 50, 2, 1}, {99, 3, 99, 4, 1}, {99, 7, 50, 4, 1}, {0, 7, 5, 2, 1}, {-99, 7, 0, 2, 0},
+            {-99, 7, -50, 2, 1}, {2, 3, 1, 2, 1}, {2, 3, 0, 2, 0}, {2, 3, -1, 2, 1}, {0, 3, 0, 4, 0}};
+        for (int[] cap : caps) {
+            HeroSheet x = new HeroSheet();
+            x.value(4, cap[0], 0);
+            x.rule(cap[1], 0, 0, cap[2], -1);
+            String name = "a truth of " + cap[0] + (cap[1] == 3 ? ", at most " : ", at least ") + cap[2];
+            how(name, x, 0, cap[3], -1);
+            due.is(name, x.number(0, 0), cap[4]);
+        }
     }
 
     private static void amountsCut() {

@@ -32,6 +32,12 @@ public final class RefusedTest {
 
     private static void refused(String name, int status, Twins.Call call) {
         Twins.refused(due, name, Heroes::rich, call, status);
+        bringsNoImage(name, Heroes.richWithoutImage(), call);
+    }
+
+    private static void bringsNoImage(String name, HeroSheet x, Twins.Call call) {
+        due.is(name + ", without an image", call.on(x), -1);
+        due.refused(name + ", still without an image", x, x.back(), 3);
     }
 
     private static void done(String name, Twins.Call call, long answer) {
@@ -114,6 +120,7 @@ public final class RefusedTest {
         Twins.refused(due, "2 no room, wrong kind", Heroes::tenValues, x -> x.value(5, 0, 0), 1);
         Twins.refused(due, "2 no room, wrong base", Heroes::tenValues, x -> x.value(0, 100, 0), 1);
         Twins.refused(due, "2 no room, wrong dice", Heroes::tenValues, x -> x.value(3, 0, 0), 1);
+        bringsNoImage("2 an eleventh", Heroes.tenValues(Heroes.richWithoutImage()), x -> x.value(0, 0, 0));
     }
 
     private static void choices() {
@@ -250,6 +257,7 @@ public final class RefusedTest {
 
     private static void full(String name, int status, Twins.Call call) {
         Twins.refused(due, name, Heroes::thirtyRules, call, status);
+        bringsNoImage(name, Heroes.thirtyRules(Heroes.richWithoutImage()), call);
     }
 
     private static void noRoomForRules() {
@@ -312,6 +320,7 @@ public final class RefusedTest {
         Twins.refused(due, "10 no room, wrong value", Heroes::tenSpells, x -> x.spell(7, 0, 1), 1);
         Twins.refused(due, "10 no room, wrong number", Heroes::tenSpells, x -> x.spell(0, 21, 1), 1);
         Twins.refused(due, "10 no room, wrong turns", Heroes::tenSpells, x -> x.spell(0, 0, 21), 1);
+        bringsNoImage("10 an eleventh", Heroes.tenSpells(Heroes.richWithoutImage()), x -> x.spell(0, 0, 1));
     }
 
     // Of value 2, 6 are left (at least 9, of which 3 are spent); of value 5, 7.
@@ -334,7 +343,7 @@ public final class RefusedTest {
 
     private static void images() {
         Twins.refused(due, "15 a 21st time", Heroes::backTwentyTimes, x -> x.back(), 2);
-        Twins.refused(due, "15 there is none", Heroes::withoutImage, x -> x.back(), 3);
+        Twins.refused(due, "15 there is none", Heroes::richWithoutImage, x -> x.back(), 3);
         Twins.refused(due, "15 nor on a new object", HeroSheet::new, x -> x.back(), 3);
     }
 

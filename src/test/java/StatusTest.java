@@ -32,7 +32,7 @@ public final class StatusTest {
         return x;
     }
 
-    private static final Twins.Call[] QUESTIONS = {
+    static final Twins.Call[] QUESTIONS = {
         x -> x.valueTold(0, 5), x -> x.valueTold(-1, 0), x -> x.valueTold(0, 6),
         x -> x.number(0, -1), x -> x.number(9, 0), x -> x.number(0, 256),
         x -> x.ruleTold(0, 7), x -> x.ruleTold(-1, 0), x -> x.ruleTold(0, 9),

@@ -39,21 +39,29 @@ final class Twins {
         due.is(name + ", what changed", whereDiffers(maker, call), -1);
     }
 
-    /** The number of the first probe that sees a difference, or -1. */
+    /** The number of the first probe that sees a difference, or, after them, of the first part that differs, or -1. */
     static int whereDiffers(Maker maker, Call call) {
         for (int p = 0; p < PROBES.length; p++) {
-            HeroSheet left = maker.make();
-            HeroSheet right = maker.make();
-            call.on(right);
             List<Long> leftTold = new ArrayList<>();
             List<Long> rightTold = new ArrayList<>();
-            PROBES[p].ask(left, leftTold);
-            PROBES[p].ask(right, rightTold);
+            PROBES[p].ask(maker.make(), leftTold);
+            PROBES[p].ask(called(maker, call), rightTold);
             if (!leftTold.equals(rightTold)) {
                 return p;
             }
         }
+        for (Part part : Part.values()) {
+            if (!part.told(maker.make()).equals(part.told(called(maker, call)))) {
+                return PROBES.length + part.ordinal();
+            }
+        }
         return -1;
+    }
+
+    private static HeroSheet called(Maker maker, Call call) {
+        HeroSheet x = maker.make();
+        call.on(x);
+        return x;
     }
 
     private static void askValues(HeroSheet x, List<Long> told) {
