@@ -15,6 +15,7 @@ public final class ChangesTest {
         rules();
         turns();
         images();
+        backUndoes();
         host();
         questions();
         due.end();
@@ -131,6 +132,68 @@ public final class ChangesTest {
         HeroSheet x = Heroes.richWithoutImage();
         due.done("14 image", x, x.image(), 1);
         due.done("15 back to it", x, x.back(), 2);
+    }
+
+    /** Value 6 needs 1, which needs 0; spells with numbers unlike the turns in which they end. */
+    private static HeroSheet chained() {
+        HeroSheet x = Heroes.beforeImage();
+        x.rule(0, 6, 0, 1, 1 + 16 * 2);
+        x.spell(1, 13, 4);
+        x.spell(2, -1, 6);
+        return x;
+    }
+
+    // The twin of the one that goes back never had an image, and nothing came to it.
+    private static void backUndoes() {
+        Twins.Maker back = () -> {
+            HeroSheet x = chained();
+            x.image();
+            changeAll(x);
+            x.back();
+            return x;
+        };
+        due.is("15 all that came is undone", Twins.whereDiffer(ChangesTest::chained, back), -1);
+        due.is("15 and no more of it shows", Twins.whereDiffer(() -> more(chained()), () -> more(back.make())), -1);
+        HeroSheet x = back.make();
+        due.is("15 a spell's number", x.number(3, -1), 1 + 6);
+        due.refused("15 a ring through what was needed then", x, x.rule(0, 0, 0, 0, 6 + 16), 4);
+        due.is("15 all its values", x.count(8), 3);
+        due.is("15 the last one", x.ring(2), 1);
+    }
+
+    private static void changeAll(HeroSheet x) {
+        x.value(2, 50, 0);
+        x.value(3, -50, 1 + 8 * 2);
+        x.rule(0, 0, 0, 0, 7 + 16);
+        x.typed(5, 1, 0, 9, 8 + 16);
+        x.rule(4, 0, 0, 0, -1);
+        x.rule(6, 1, 0, 0, -1);
+        x.spell(7, 17, 20);
+        x.spell(0, 11, 3);
+        x.spend(7, 40);
+        x.rest();
+        x.spend(5, 1);
+        for (int c = 0; c < 8; c++) {
+            x.make(c, x.choice(c, 0) == 0);
+            x.free(c, x.choice(c, 1) == 0);
+        }
+        for (int type = 1; type <= 5; type++) {
+            x.stack(type, type != 2);
+        }
+        x.turn();
+        x.turn();
+        x.turn();
+        x.test(1, 3);
+    }
+
+    private static HeroSheet more(HeroSheet x) {
+        x.value(4, 0, 0);
+        x.value(3, 2, 3 + 8 * 4);
+        x.spell(7, 1, 2);
+        x.spell(8, -5, 7);
+        x.rule(0, 7, 0, -1, 6 + 16);
+        x.turn();
+        return x;
     }
 
     private static void host() {

@@ -11,6 +11,7 @@ public final class EdgesTest {
         constants();
         askedOutside();
         tenValues();
+        oneMoreValue();
         thirtyRules();
         tenSpells();
         spellsLast();
@@ -184,6 +185,32 @@ public final class EdgesTest {
         due.refused("6 by value 15", x, x.rule(0, 0, 0, 0, 15 + 16), 1);
         due.done("10 a spell of the last value", x, x.spell(8, 1, 1), 1);
         due.is("17 with it", x.number(8, 0), 99);
+    }
+
+    // Whatever else there is, a new value leaves those before it as they are, and nothing of it is spent or needed.
+    private static void oneMoreValue() {
+        for (int many = 1; many < 10; many++) {
+            for (int others = 0; others <= 10; others++) {
+                HeroSheet x = new HeroSheet();
+                for (int v = 0; v < many; v++) {
+                    x.value(2, 10 + v, 0);
+                    x.spend(v, 1 + v);
+                    x.rule(0, v, 0, 0, v == 0 ? -1 : v - 1 + 16);
+                }
+                for (int k = 0; k < others; k++) {
+                    x.spell(k % many, 0, 1 + k);
+                    x.turn();
+                }
+                due.done("2 one more", x, x.value(2, 50, 0), many);
+                for (int v = 0; v < many; v++) {
+                    due.is("16 spent of " + v + " before " + many, x.valueTold(v, 2), 1 + v);
+                    due.is("21 " + v + " needs the first", x.needs(v, 0), v == 0 ? 0 : 1);
+                    due.is("21 " + v + " does not need it", x.needs(v, many) + x.needs(many, v), 0);
+                }
+                due.is("16 nothing spent of it", x.valueTold(many, 2), 0);
+                due.is("17 its number", x.number(many, 0), 50);
+            }
+        }
     }
 
     private static void thirtyRules() {

@@ -25,7 +25,8 @@ final class Heroes {
         return x;
     }
 
-    private static HeroSheet beforeImage() {
+    /** As rich(), but without what came after its image. */
+    static HeroSheet beforeImage() {
         HeroSheet x = Due.five();
         x.value(2, 9, 0);
         x.value(1, -4, 0);

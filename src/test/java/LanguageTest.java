@@ -23,6 +23,9 @@ public final class LanguageTest {
         "throw", "throws", "try", "catch", "finally", "synchronized", "assert", "->", "::", "protected", "native",
         "volatile", "transient", "strictfp", "Exact", "System\\.(?!arraycopy)", "Thread", "Random", "var", "yield",
         "hashCode", "toString", "import (?!java\\.util\\.(Arrays|ArrayList|List);)", "package", "@"};
+    private static final Pattern LIBRARY = Pattern.compile("\\b(Integer|Long|Math|Arrays|System|String|List)\\.(\\w+)");
+    private static final List<String> LIBRARY_USED = List.of(
+        "Integer.bitCount", "Math.max", "Math.min", "Math.floorMod", "Arrays.fill", "System.arraycopy");
     private static final int MOST_CLASSES = 12;
     private static final int MOST_FIELDS = 20;
     private static final int MOST_PARAMETERS = 7;
@@ -121,6 +124,10 @@ public final class LanguageTest {
             String word = banned.matches("\\w+") ? "\\b" + banned + "\\b" : banned;
             Matcher m = Pattern.compile(banned.equals("Exact") ? "Exact\\b" : word).matcher(code);
             check(!m.find(), "the source has " + banned);
+        }
+        Matcher used = LIBRARY.matcher(code);
+        while (used.find()) {
+            check(LIBRARY_USED.contains(used.group()), "the source uses " + used.group());
         }
         check(code.chars().allMatch(c -> c < 128), "the source has other characters than plain ones");
         methodLengths(lines);

@@ -8,6 +8,7 @@ public final class NumbersTest {
         insteadOfEachKind();
         setsByRank();
         quarrels();
+        quarrelsAmongOthers();
         typedAroundZero();
         typedApart();
         stacking();
@@ -17,11 +18,14 @@ public final class NumbersTest {
         capsAtTheirAmount();
         capsInOrder();
         poolsAndTruths();
+        poolsBelowZero();
         truthsAfterCaps();
         amountsCut();
         amountsRead();
+        readInAnyOrder();
         testsAtTheirNumber();
         testsFarOut();
+        eachAskedFirst();
         due.end();
     }
 
@@ -163,6 +167,29 @@ public final class NumbersTest {
         int[] both = {1, 0, 1};
         for (int v = 0; v <= 2; v++) {
             due.is("quarrel: of two values, " + v, y.valueTold(v, 5), both[v]);
+        }
+    }
+
+    // The sets stand anywhere among other rules, with any source; only rank and amount matter.
+    private static void quarrelsAmongOthers() {
+        for (int first = 0; first <= 4; first++) {
+            for (int source = 0; source <= 4; source++) {
+                HeroSheet x = ten();
+                x.value(1, 0, 0);
+                x.value(1, 0, 0);
+                for (int r = 0; r < first; r++) {
+                    x.rule(r % 2 == 0 ? 0 : 2, r % 2, 0, 100 + r, -1);
+                }
+                String name = "quarrel after " + first + ", source " + source;
+                x.rule(2, 2, 3 + 16 * source, 7, -1);
+                x.rule(0, 1, 0, 50, -1);
+                x.rule(2, 2, 3 + 16 * source, 7, -1);
+                due.is(name + ": none", x.valueTold(2, 5), 0);
+                x.rule(2, 2, 3 + 16 * source, 6, -1);
+                due.is(name, x.valueTold(2, 5), 1);
+                due.is(name + ": the first counts", x.number(2, 0), 7);
+                how(name, x, first + 3, 4, first);
+            }
         }
     }
 
@@ -388,6 +415,19 @@ public final class NumbersTest {
         due.is("it is not so", x.status(), 3);
     }
 
+    private static void poolsBelowZero() {
+        int[] mosts = {1, 0, -1, -1000};
+        for (int most : mosts) {
+            HeroSheet x = new HeroSheet();
+            x.value(2, 9, 0);
+            due.is("12 some is left", x.spend(0, 4), 5);
+            x.rule(3, 0, 0, most, -1);
+            due.is("17 what is spent is taken from " + most, x.number(0, 0), most - 4);
+            due.is("13 one pool", x.rest(), 1);
+            due.is("17 nothing is taken from " + most, x.number(0, 0), most);
+        }
+    }
+
     // A truth becomes 1 after its caps, so these see what it was before.
     private static void truthsAfterCaps() {
         int[][] caps = {{99, 3, 50, 2, 1}, {99, 3, 99, 4, 1}, {99, 7, 50, 4, 1}, {0, 7, 5, 2, 1}, {-99, 7, 0, 2, 0},
@@ -411,11 +451,15 @@ public final class NumbersTest {
             x.rule(0, 0, 0, 0, 1 + 16 * cut[1]);
             x.rule(0, 0, 0, 7, 1 + 16 * cut[1]);
             x.rule(0, 0, 0, -7, 1 + 16 * cut[1]);
+            x.rule(3, 0, 0, -1, 1 + 16 * cut[1]);
+            x.rule(3, 0, 0, 1, 1 + 16 * cut[1]);
             String name = "amount: " + cut[0] + " times " + cut[1] + " by 2";
             due.is(name, x.amount(0), cut[2]);
             due.is(name + " and 7", x.amount(1), 7 + cut[2]);
             due.is(name + " and -7", x.amount(2), cut[2] - 7);
-            due.is(name + " three times", x.number(0, 0), 10 + 3 * cut[2]);
+            due.is(name + " and -1", x.amount(3), cut[2] - 1);
+            due.is(name + " and 1", x.amount(4), 1 + cut[2]);
+            due.is(name + " three times, at most once less 1", x.number(0, 0), Math.min(10 + 3 * cut[2], cut[2] - 1));
         }
     }
 
@@ -437,6 +481,31 @@ public final class NumbersTest {
         x.rule(3, 5, 0, 0, 16 * 2);
         due.is("a cap reads, though it does not hold", x.amount(6), 3);
         due.is("a cap by a value", x.number(5, 1), 3);
+    }
+
+    // Each place of the chain, and beside it values that it reads, too: each comes after all that it needs.
+    private static void readInAnyOrder() {
+        int[][] orders = {{0, 1, 2, 3}, {3, 2, 1, 0}, {1, 3, 0, 2}, {2, 0, 3, 1}, {0, 2, 1, 3}, {3, 1, 2, 0}};
+        for (int[] order : orders) {
+            HeroSheet x = new HeroSheet();
+            for (int v = 0; v < 10; v++) {
+                x.value(1, 1, 0);
+            }
+            // The first reads the second alone; the second the third and 4 .. 6; the third the fourth and 7; that one 8, 9.
+            int[][] reads = {{order[1]}, {order[2], 4, 5, 6}, {order[3], 7}, {8, 9}};
+            for (int k = 0; k < 4; k++) {
+                for (int v : reads[k]) {
+                    x.rule(0, order[k], 0, 0, v + 16 * 2);
+                }
+            }
+            x.test(1, 0);
+            x.rule(0, 9, 0, 10, -1);
+            long[] sums = {1 + 9, 1 + 5 + 3, 1 + 3 + 1, 1 + 2};
+            for (int k = 0; k < 4; k++) {
+                due.is("read in any order", x.number(order[k], 0), sums[k]);
+                due.is("read in any order, with the choice", x.number(order[k], 1), sums[k] + 10);
+            }
+        }
     }
 
     private static void testsAtTheirNumber() {
@@ -469,6 +538,45 @@ public final class NumbersTest {
                 x.rule(0, 1, 0, 2, -1);
                 due.is("number " + (set + more) + " against " + set, x.number(1, 0), more >= 0 ? 1 : 2);
             }
+        }
+    }
+
+    /** Rule 1 is beaten by 2 with choice 0, else by none; it reads value 1, which choice 0 makes greater. */
+    private static HeroSheet turning() {
+        HeroSheet x = ten();
+        x.value(1, 3, 0);
+        x.test(1, 0);
+        x.rule(0, 1, 0, 4, -1);
+        x.test(0, 0);
+        x.typed(1, 0, 0, 1, 1 + 16 * 2);
+        x.test(1, 0);
+        x.typed(1, 0, 0, 20, -1);
+        x.test(2, 0);
+        x.rule(2, 0, 0, 50, -1);
+        x.rule(2, 0, 0, 60, -1);
+        x.rule(4, 2, 0, 0, -1);
+        return x;
+    }
+
+    // Each question is the first one after the change, so that none tells what another one has worked out.
+    private static void eachAskedFirst() {
+        Twins.Call[] asked = {x -> x.amount(1), x -> x.ruleTold(1, 7), x -> x.ruleTold(1, 8), x -> x.ruleTold(2, 5),
+            x -> x.ruleTold(2, 6), x -> x.ruleTold(2, 7), x -> x.valueTold(0, 5), x -> x.number(0, -1), x -> x.number(1, -1)};
+        long[] without = {4, 2, -1, 0, 0, 0, 1, 54, 3};
+        long[] with = {8, 4, 2, 1, 1, 2, 0, 30, 7};
+        for (int q = 0; q < asked.length; q++) {
+            HeroSheet x = turning();
+            due.is("asked first, " + q, asked[q].on(x), without[q]);
+            x.make(0, true);
+            due.is("asked first with the choice, " + q, asked[q].on(x), with[q]);
+            x.make(0, false);
+            due.is("asked first without it again, " + q, asked[q].on(x), without[q]);
+            x.make(0, true);
+            x.number(0, 0);
+            due.is("asked after another sheet, " + q, asked[q].on(x), with[q]);
+            x.lawful(255);
+            x.spell(1, -20, 1);
+            due.is("asked after a spell, " + q, asked[q].on(x), new long[] {-12, 2, -1, 1, 1, 2, 0, 18, -13}[q]);
         }
     }
 }

@@ -106,7 +106,7 @@ enum Part {
         }
     }
 
-    // Shorts are read one by one; bytes also by their sums; bytes and ints by the rules that they tell.
+    // Shorts are read one by one, bytes by their sums, bytes and ints by the rules that they tell; then all places.
     private static void sheet(HeroSheet x, int sheet, List<Long> told) {
         for (int i = -1; i <= 40; i++) {
             add(told, x.forge(2, i, sheet));
@@ -124,6 +124,9 @@ enum Part {
                 add(told, x.ruleTold(rule, 3));
                 add(told, x.amount(rule));
             }
+        }
+        for (int i = -1; i <= 40; i++) {
+            add(told, x.cell(sheet, i, 0));
         }
     }
 

@@ -9,6 +9,7 @@ public final class RingsTest {
         oneAlone();
         byEachKind();
         byTestAndAmount();
+        whicheverHold();
         noneWithoutAim();
         theFewest();
         theLesser();
@@ -98,6 +99,30 @@ public final class RingsTest {
         due.refused("20 the test closes the ring", x, x.rule(0, 2, 0, 0, 16), 4);
         ringIs("20 by its test", x, 2, 1);
         due.is("21 nothing came of them", x.needs(3, 0) + x.needs(2, 0), 0);
+    }
+
+    // A rule that does not hold, or is not there, or is beaten, reads and writes all the same.
+    private static void whicheverHold() {
+        for (int how = 0; how <= 2; how++) {
+            for (int made = 0; made <= 1; made++) {
+                HeroSheet x = values(3);
+                x.test(how, 4);
+                x.rule(0, 0, 0, 0, 1 + 16);
+                x.test(0, 0);
+                x.rule(2, 1, 0, 0, 2 + 16);
+                x.rule(2, 1, 9, 0, -1);
+                x.rule(4, 1, 0, 0, -1);
+                if (made == 1) {
+                    x.make(4, true);
+                }
+                due.is("21 test " + how + ", made " + made, x.needs(0, 1), 1);
+                due.is("21 by one that is not there", x.needs(1, 2), 1);
+                due.is("21 through it", x.needs(0, 2), 1);
+                x.test(2 - how, 4);
+                due.refused("20 test " + how + ", made " + made, x, x.rule(0, 2, 0, 0, 16), 4);
+                ringIs("20 test " + how + ", made " + made, x, 2, 0, 1);
+            }
+        }
     }
 
     private static void noneWithoutAim() {
@@ -211,5 +236,14 @@ public final class RingsTest {
         due.done("20 no ring any more", x, x.rule(0, 2, 0, 0, 1 + 16), 1);
         x.value(0, 0, 0);
         due.is("21 the new value needs none", x.needs(3, 0) + x.needs(2, 3), 0);
+        HeroSheet chain = values(4);
+        for (int v = 0; v < 3; v++) {
+            needs(chain, v, v + 1);
+        }
+        chain.image();
+        chain.back();
+        due.is("21 through others after back", chain.needs(0, 3), 1);
+        due.refused("20 after back", chain, chain.rule(0, 3, 0, 0, 16), 4);
+        ringIs("20 all of them after back", chain, 3, 0, 1, 2);
     }
 }

@@ -20,7 +20,7 @@ final class Twins {
 
     private static final Probe[] PROBES = {
         Twins::askValues, Twins::askRules, Twins::askSheets, Twins::askBest, Twins::askNumbers, Twins::askTest,
-        Twins::askImage, Twins::askTurns};
+        Twins::askTurns, Twins::askImage};
 
     private Twins() {
     }
@@ -41,27 +41,39 @@ final class Twins {
 
     /** The number of the first probe that sees a difference, or, after them, of the first part that differs, or -1. */
     static int whereDiffers(Maker maker, Call call) {
-        for (int p = 0; p < PROBES.length; p++) {
+        return firstDifference(maker, called(maker, call), PROBES.length, Part.values().length);
+    }
+
+    /** The same of two heroes that were made in two ways; whether they have images is not looked at. */
+    static int whereDiffer(Maker left, Maker right) {
+        return firstDifference(left, right, PROBES.length - 1, Part.IMAGE.ordinal());
+    }
+
+    private static int firstDifference(Maker left, Maker right, int probes, int parts) {
+        for (int p = 0; p < probes; p++) {
             List<Long> leftTold = new ArrayList<>();
             List<Long> rightTold = new ArrayList<>();
-            PROBES[p].ask(maker.make(), leftTold);
-            PROBES[p].ask(called(maker, call), rightTold);
+            PROBES[p].ask(left.make(), leftTold);
+            PROBES[p].ask(right.make(), rightTold);
             if (!leftTold.equals(rightTold)) {
                 return p;
             }
         }
-        for (Part part : Part.values()) {
-            if (!part.told(maker.make()).equals(part.told(called(maker, call)))) {
-                return PROBES.length + part.ordinal();
+        for (int p = 0; p < parts; p++) {
+            Part part = Part.values()[p];
+            if (!part.told(left.make()).equals(part.told(right.make()))) {
+                return PROBES.length + p;
             }
         }
         return -1;
     }
 
-    private static HeroSheet called(Maker maker, Call call) {
-        HeroSheet x = maker.make();
-        call.on(x);
-        return x;
+    private static Maker called(Maker maker, Call call) {
+        return () -> {
+            HeroSheet x = maker.make();
+            call.on(x);
+            return x;
+        };
     }
 
     private static void askValues(HeroSheet x, List<Long> told) {
