@@ -18,6 +18,7 @@ public final class EdgesTest {
         turns();
         backs();
         imageKeepsAll();
+        imageOfTen();
         greatNumbers(1);
         greatNumbers(-1);
         greatPool();
@@ -349,6 +350,44 @@ public final class EdgesTest {
             due.done("15 back " + i, x, x.back(), 1);
         }
         due.refused("15 images do not give more times", x, x.back(), 2);
+    }
+
+    // All ten pools, from the first to the last: what was spent of them, and what they needed.
+    private static void imageOfTen() {
+        for (int way = 0; way <= 1; way++) {
+            HeroSheet x = new HeroSheet();
+            for (int v = 0; v < 10; v++) {
+                x.value(2, 50 + v, 0);
+                x.spend(v, 1 + v);
+            }
+            x.image();
+            readInARow(x, way == 0);
+            x.rest();
+            x.back();
+            for (int v = 0; v < 10; v++) {
+                due.is("15 kind of " + v, x.valueTold(v, 0), 2);
+                due.is("15 base of " + v, x.valueTold(v, 1), 50 + v);
+                due.is("15 spent of " + v, x.valueTold(v, 2), 1 + v);
+                due.is("15 number of " + v, x.number(v, 0), 50 - 1);
+                for (int w = 0; w < 10; w++) {
+                    due.is("15 " + v + " needs " + w, x.needs(v, w), 0);
+                }
+            }
+            readInARow(x, way == 1);
+            x.image();
+            x.back();
+            due.refused("6 a ring of all", x, x.rule(0, way == 1 ? 9 : 0, 0, 0, (way == 1 ? 0 : 9) + 16), 4);
+            due.is("31 ten in it", x.count(8), 10);
+        }
+    }
+
+    /** Each of the ten values reads the next one, or each the one before it. */
+    private static void readInARow(HeroSheet x, boolean next) {
+        for (int v = 0; v < 9; v++) {
+            int reader = next ? v : v + 1;
+            int read = next ? v + 1 : v;
+            due.done("6 " + reader + " reads " + read, x, x.rule(0, reader, 0, 0, read + 16), v);
+        }
     }
 
     /** Three rules on each of ten values, each reading the one before: the greatest numbers that there can be. */

@@ -13,6 +13,7 @@ public final class HostTest {
         cell();
         row();
         rowAtTheEdges();
+        rowReadsNoValue();
         rowOrder();
         forgeKinds();
         forgeRules();
@@ -261,6 +262,26 @@ public final class HostTest {
         }
         x.sheet(1, -1, 0);
         due.refused("36 it is missing now", x, x.row(1, 1, 0), 10);
+    }
+
+    private static void rowReadsNoValue() {
+        HeroSheet x = new HeroSheet();
+        for (int v = 0; v < 10; v++) {
+            x.value(1, 10 + v, 0);
+        }
+        x.sheet(3, 2, 30);
+        for (int v = 0; v < 10; v++) {
+            x.cell(3, 3 * v, v);
+            x.cell(3, 3 * v + 1, 100 + v);
+            due.done("36 a rule for value " + v, x, x.row(3, 2, 3 * v), v);
+            due.is("36 its amount is the told one", x.amount(v), 100 + v);
+            due.is("36 its aim's number", x.number(v, 0), 110 + 2 * v);
+        }
+        for (int w = 0; w < 10; w++) {
+            for (int v = 0; v < 10; v++) {
+                due.is("36 none needs another", x.needs(w, v), 0);
+            }
+        }
     }
 
     private static void rowOrder() {
