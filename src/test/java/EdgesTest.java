@@ -25,6 +25,7 @@ public final class EdgesTest {
         greatDice();
         diceAtTheirEnds();
         chancesAtTheirEnds();
+        manyChanges();
         lastCall();
         due.end();
     }
@@ -579,6 +580,23 @@ public final class EdgesTest {
         chanceIs(three, 16, false, 5, 108);
         chanceIs(three, 17, false, 1, 54);
         chanceIs(three, 17, true, 107, 2916);
+    }
+
+    // After each of many changes, with whichever choices free, a number is the one of now, and not of before.
+    private static void manyChanges() {
+        int[] sets = {0, 16, 37, 100, 128, 200, 255};
+        for (int free : sets) {
+            HeroSheet x = new HeroSheet();
+            x.value(2, 0, 0);
+            x.rule(0, 0, 0, 1000, -1);
+            for (int c = 0; c < 8; c++) {
+                x.free(c, (free >> c & 1) != 0);
+            }
+            for (int i = 1; i <= 250; i++) {
+                due.is("12 spent " + i + " times", x.spend(0, 1), 1000 - i);
+                due.is("17 after " + i + " times", x.number(0, i % 2 == 0 ? 0 : free), 1000 - i);
+            }
+        }
     }
 
     // 256 changes and as many questions after them: the 512th call is answered as the first one.

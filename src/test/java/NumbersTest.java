@@ -7,6 +7,7 @@ public final class NumbersTest {
         thereByTests();
         insteadOfEachKind();
         setsByRank();
+        setsOnEachBase();
         quarrels();
         quarrelsAmongOthers();
         typedAroundZero();
@@ -126,6 +127,18 @@ public final class NumbersTest {
         how("set: not there", x, 2, 0, -1);
         how("set: the next one", x, 3, 2, -1);
         how("set: of the next one", x, 1, 4, 3);
+    }
+
+    private static void setsOnEachBase() {
+        for (int base = -99; base <= 99; base++) {
+            HeroSheet x = new HeroSheet();
+            x.value(1, base, 0);
+            due.is("base " + base, x.number(0, 0), base);
+            x.rule(0, 0, 0, 4, -1);
+            due.is("base " + base + " and a boon", x.number(0, 0), base + 4);
+            x.rule(2, 0, 0, 7, -1);
+            due.is("set, whatever the base " + base, x.number(0, 0), 7 + 4);
+        }
     }
 
     private static int quarrel(int... ranksAndAmounts) {
